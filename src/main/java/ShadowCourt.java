@@ -30,7 +30,6 @@ public final class ShadowCourt {
     private static final int STAY = 4;
 
     private final Tape tape;
-    private final Text text;
     private final Market market;
     private final Law law;
     private final LawReader lawReader;
@@ -44,11 +43,10 @@ public final class ShadowCourt {
 
     public ShadowCourt() {
         tape = new Tape();
-        text = new Text(tape);
         market = new Market();
         law = new Law();
-        lawReader = new LawReader(text);
-        walkReader = new WalkReader(text);
+        lawReader = new LawReader(tape);
+        walkReader = new WalkReader(tape);
         clock = new Clock(market, law);
         now = new Day();
         kept = new Day();
@@ -73,11 +71,11 @@ public final class ShadowCourt {
         if (!isIn(n, 1, 140) || n > tape.length) {
             return NONE;
         }
-        text.open(n);
-        boolean stands = market.readFrom(text);
+        tape.open(n);
+        boolean stands = market.readFrom(tape);
         tape.drop();
         if (!stands) {
-            return text.fault;
+            return tape.fault;
         }
         sendAwayWhoCannotStand();
         isKept = false;
@@ -88,11 +86,11 @@ public final class ShadowCourt {
         if (!isIn(n, 1, 240) || n > tape.length) {
             return NONE;
         }
-        text.open(n);
+        tape.open(n);
         boolean stands = lawReader.readWhole();
         tape.drop();
         if (!stands) {
-            return text.fault;
+            return tape.fault;
         }
         law.copyFrom(lawReader.written);
         return law.clauses;
@@ -111,11 +109,11 @@ public final class ShadowCourt {
         if (!isIn(j, 0, JUDGES - 1) || !isIn(n, 1, 80) || n > tape.length) {
             return NONE;
         }
-        text.open(n);
+        tape.open(n);
         boolean stands = walkReader.readWhole();
         tape.drop();
         if (!stands) {
-            return text.fault;
+            return tape.fault;
         }
         now.setWalk(j, walkReader.copyOfSteps());
         return walkReader.size;
@@ -215,7 +213,7 @@ public final class ShadowCourt {
         if (what != 10 && !isIn(what, 0, m - 1)) {
             return NONE;
         }
-        int less = foresight.bestWay(j, m);
+        int less = foresight.leastOwedWay(j, m);
         return what == 10 ? less : foresight.bestWay[what];
     }
 
@@ -559,21 +557,27 @@ public final class ShadowCourt {
         return longest;
     }
 
-    /** The bytes that were fed and not used yet. */
+    /** The bytes that were fed and not used yet; their front is read as a TEXT, sign by sign. */
     private static final class Tape {
         private static final int ROOM = 260;
 
         private final int[] bytes;
         private int length;
+        private int end;
+        private int at;
+        private int fault;
 
         private Tape() {
             bytes = new int[ROOM];
             length = 0;
+            end = 0;
+            at = 0;
+            fault = 0;
         }
 
         private void putNumber(int number) {
             for (int shift = 24; shift >= 0; shift -= 8) {
-                if (length < ROOM) {
+                if (length >= 0 && length < ROOM) {
                     bytes[length] = number >> shift & 255;
                     length++;
                 }
@@ -595,31 +599,17 @@ public final class ShadowCourt {
         private void drop() {
             length = 0;
         }
-    }
 
-    /** The front of the tape, as it is read sign by sign, and the FAULT that was found in it. */
-    private static final class Text {
-        private final Tape tape;
-        private int end;
-        private int at;
-        private int fault;
-
-        private Text(Tape tape) {
-            this.tape = tape;
-            end = 0;
-            at = 0;
-            fault = 0;
-        }
-
+        /** Lets the first n bytes be read as a TEXT. */
         private void open(int n) {
-            end = n;
+            end = Math.min(n, length);
             at = 0;
             fault = 0;
         }
 
         /** The next sign; NONE at the end. */
         private int sign() {
-            return at < end ? tape.byteAt(at) : NONE;
+            return at >= 0 && at < end && at < ROOM ? bytes[at] : NONE;
         }
 
         private boolean isDigit() {
@@ -660,7 +650,7 @@ public final class ShadowCourt {
         }
 
         private static int spotAt(int x, int y) {
-            return isIn(x, 0, SIDE - 1) && isIn(y, 0, SIDE - 1) ? SIDE * y + x : NONE;
+            return x >= 0 && x < SIDE && y >= 0 && y < SIDE ? SIDE * y + x : NONE;
         }
 
         private static boolean isSpot(int spot) {
@@ -676,7 +666,7 @@ public final class ShadowCourt {
         }
 
         private int kindAt(int spot) {
-            return isSpot(spot) ? kinds[spot] : WALL;
+            return spot >= 0 && spot < SPOTS ? kinds[spot] : WALL;
         }
 
         private boolean isOpen(int spot) {
@@ -700,15 +690,15 @@ public final class ShadowCourt {
         }
 
         /** Takes THE MARKET from a TEXT; with a FAULT in it all stays as it is. */
-        private boolean readFrom(Text text) {
+        private boolean readFrom(Tape tape) {
             for (int y = 0; y < SIDE; y++) {
-                if (!readRow(text, y)) {
+                if (!readRow(tape, y)) {
                     return false;
                 }
-                if (kindOf(text.sign()) != NONE || timesOf(text.sign()) > 0) {
-                    return text.fails(6, text.at);
+                if (kindOf(tape.sign()) != NONE || timesOf(tape.sign()) > 0) {
+                    return tape.fails(6, tape.at);
                 }
-                if (!text.passes(y < SIDE - 1 ? '/' : NONE)) {
+                if (!tape.passes(y < SIDE - 1 ? '/' : NONE)) {
                     return false;
                 }
             }
@@ -719,21 +709,21 @@ public final class ShadowCourt {
             return true;
         }
 
-        private boolean readRow(Text text, int y) {
+        private boolean readRow(Tape tape, int y) {
             int x = 0;
             for (int turn = 0; turn < SIDE && x < SIDE; turn++) {
-                int times = timesOf(text.sign());
+                int times = timesOf(tape.sign());
                 if (x + times > SIDE) {
-                    return text.fails(6, text.at);
+                    return tape.fails(6, tape.at);
                 }
                 if (times > 0) {
-                    text.at++;
+                    tape.at++;
                 }
-                int kind = kindOf(text.sign());
+                int kind = kindOf(tape.sign());
                 if (kind == NONE) {
-                    return text.fails(1, text.at);
+                    return tape.fails(1, tape.at);
                 }
-                text.at++;
+                tape.at++;
                 for (int end = x + Math.max(times, 1); x < end && x < SIDE; x++) {
                     drawn[SIDE * y + x] = kind;
                 }
@@ -756,11 +746,6 @@ public final class ShadowCourt {
                 return SIDE;
             }
             return sign >= '2' && sign <= '9' ? sign - '0' : 0;
-        }
-
-        private boolean canEnter(int spot, boolean dry) {
-            int kind = kindAt(spot);
-            return kind != WALL && !(dry && kind == RIVER);
         }
 
         /** Whether a walk of at most 3 STEPS, not through the river, leads from one to the other. */
@@ -786,19 +771,16 @@ public final class ShadowCourt {
                 row[spot] = spot == from ? 0 : FAR;
             }
             for (int done = 0; done < 3; done++) {
-                for (int spot = 0; spot < row.length; spot++) {
-                    if (row[spot] == done) {
-                        reckonNeighbours(row, spot, dry);
+                for (int i = 0; i < 4 * row.length; i++) {
+                    int spot = i / 4;
+                    int next = row[spot] == done ? beside(spot, 2 * (i % 4)) : NONE;
+                    if (next < 0 || next >= row.length || row[next] != FAR) {
+                        continue;
                     }
-                }
-            }
-        }
-
-        private void reckonNeighbours(int[] row, int spot, boolean dry) {
-            for (int way = 0; way < 8; way += 2) {
-                int next = beside(spot, way);
-                if (canEnter(next, dry) && next >= 0 && next < row.length && row[next] == FAR) {
-                    row[next] = row[spot] + 1;
+                    int kind = kindAt(next);
+                    if (kind != WALL && !(dry && kind == RIVER)) {
+                        row[next] = done + 1;
+                    }
                 }
             }
         }
@@ -928,34 +910,38 @@ public final class ShadowCourt {
         private int reckon(int from) {
             int at = from;
             int top = 0;
-            // stack[0] stays 0, so that there is always something below the top
             for (int turn = 0; turn < ORDERS && at >= 0 && at < used; turn++) {
                 int order = orders[at];
                 int word = words[at];
                 at++;
-                if (order == END) {
-                    return stack[top];
-                } else if (order == NUMBER || order == LETTER) {
-                    if (top >= STACK - 1) {
-                        return 0;
-                    }
-                    top++;
-                    stack[top] = order == NUMBER ? word : toldAt(word);
-                } else if (order == NOT) {
-                    stack[top] = stack[top] == 0 ? 1 : 0;
-                } else if (order == SKIP_IF || order == SKIP_IF_NOT) {
-                    if (stack[top] != 0 == (order == SKIP_IF)) {
-                        at = word;
-                    } else {
-                        top = Math.max(top - 1, 0);
-                    }
-                } else {
-                    int right = stack[top];
-                    top = Math.max(top - 1, 0);
-                    if (right == 0 && (order == '/' || order == '%')) {
-                        return 0;
-                    }
-                    stack[top] = joined(order, stack[top], right);
+                int last = stack[top];
+                int below = top > 0 ? top - 1 : 0;
+                switch (order) {
+                    case END:
+                        return last;
+                    case NUMBER:
+                    case LETTER:
+                        top = top < STACK - 1 ? top + 1 : top;
+                        stack[top] = order == NUMBER ? word : toldAt(word);
+                        break;
+                    case NOT:
+                        stack[top] = last == 0 ? 1 : 0;
+                        break;
+                    case SKIP_IF:
+                    case SKIP_IF_NOT:
+                        if (last != 0 == (order == SKIP_IF)) {
+                            at = word;
+                        } else {
+                            top = below;
+                        }
+                        break;
+                    default:
+                        if (last == 0 && (order == '/' || order == '%')) {
+                            return 0;
+                        }
+                        top = below;
+                        stack[top] = joined(order, stack[top], last);
+                        break;
                 }
             }
             return 0;
@@ -983,33 +969,33 @@ public final class ShadowCourt {
     private static final class LawReader {
         private static final int DEEPEST = 6;
 
-        private final Text text;
+        private final Tape tape;
         private final Law written;
 
-        private LawReader(Text text) {
-            this.text = text;
+        private LawReader(Tape tape) {
+            this.tape = tape;
             written = new Law();
         }
 
         private boolean readWhole() {
             written.empty();
             for (int i = 0; i <= Law.MOST_CLAUSES; i++) {
-                int kind = text.sign();
+                int kind = tape.sign();
                 if (!isKind(kind)) {
-                    return text.fails(1, text.at);
+                    return tape.fails(1, tape.at);
                 }
                 if (i == Law.MOST_CLAUSES) {
-                    return text.fails(4, text.at);
+                    return tape.fails(4, tape.at);
                 }
-                text.at++;
+                tape.at++;
                 if (!readClause(kind, i)) {
                     return false;
                 }
                 written.clauses = i + 1;
-                if (text.sign() == NONE) {
+                if (tape.sign() == NONE) {
                     return true;
                 }
-                if (!text.passes(';')) {
+                if (!tape.passes(';')) {
                     return false;
                 }
             }
@@ -1032,7 +1018,7 @@ public final class ShadowCourt {
             }
             written.put(Law.END, 0);
             written.askedAt[i] = written.used;
-            if (!text.passes('(') || !readParts(1) || !text.passes(')')) {
+            if (!tape.passes('(') || !readParts(1) || !tape.passes(')')) {
                 return false;
             }
             written.put(Law.END, 0);
@@ -1044,8 +1030,8 @@ public final class ShadowCourt {
             if (!readPieces(depth)) {
                 return false;
             }
-            for (int turn = 0; turn < Law.ORDERS && text.sign() == '|'; turn++) {
-                text.at++;
+            for (int turn = 0; turn < Law.ORDERS && tape.sign() == '|'; turn++) {
+                tape.at++;
                 int skip = written.put(Law.SKIP_IF, 0);
                 if (!readPieces(depth)) {
                     return false;
@@ -1059,8 +1045,8 @@ public final class ShadowCourt {
             if (!readPiece(depth)) {
                 return false;
             }
-            for (int turn = 0; turn < Law.ORDERS && text.sign() == '&'; turn++) {
-                text.at++;
+            for (int turn = 0; turn < Law.ORDERS && tape.sign() == '&'; turn++) {
+                tape.at++;
                 int skip = written.put(Law.SKIP_IF_NOT, 0);
                 if (!readPiece(depth)) {
                     return false;
@@ -1071,14 +1057,14 @@ public final class ShadowCourt {
         }
 
         private boolean readPiece(int depth) {
-            int sign = text.sign();
+            int sign = tape.sign();
             if (sign == '!' || sign == '(') {
                 if (depth >= DEEPEST) {
-                    return text.fails(5, text.at);
+                    return tape.fails(5, tape.at);
                 }
-                text.at++;
+                tape.at++;
                 if (sign == '(') {
-                    return readParts(depth + 1) && text.passes(')');
+                    return readParts(depth + 1) && tape.passes(')');
                 }
                 boolean stands = readPiece(depth + 1);
                 written.put(Law.NOT, 0);
@@ -1087,11 +1073,11 @@ public final class ShadowCourt {
             if (!readSum(depth)) {
                 return false;
             }
-            int compared = text.sign();
+            int compared = tape.sign();
             if (compared != '<' && compared != '>' && compared != '=') {
-                return text.fails(1, text.at);
+                return tape.fails(1, tape.at);
             }
-            text.at++;
+            tape.at++;
             boolean stands = readSum(depth);
             written.put(compared, 0);
             return stands;
@@ -1103,11 +1089,11 @@ public final class ShadowCourt {
                 return false;
             }
             for (int turn = 0; turn < Law.ORDERS; turn++) {
-                int sign = text.sign();
+                int sign = tape.sign();
                 if (sign != '+' && sign != '-') {
                     return true;
                 }
-                text.at++;
+                tape.at++;
                 if (!readTerm(depth)) {
                     return false;
                 }
@@ -1121,11 +1107,11 @@ public final class ShadowCourt {
                 return false;
             }
             for (int turn = 0; turn < Law.ORDERS; turn++) {
-                int sign = text.sign();
+                int sign = tape.sign();
                 if (sign != '*' && sign != '/' && sign != '%') {
                     return true;
                 }
-                text.at++;
+                tape.at++;
                 if (!readFactor(depth)) {
                     return false;
                 }
@@ -1135,34 +1121,34 @@ public final class ShadowCourt {
         }
 
         private boolean readFactor(int depth) {
-            if (text.isDigit()) {
+            if (tape.isDigit()) {
                 return readNumber();
             }
-            int sign = text.sign();
+            int sign = tape.sign();
             if (sign == '[') {
                 if (depth >= DEEPEST) {
-                    return text.fails(5, text.at);
+                    return tape.fails(5, tape.at);
                 }
-                text.at++;
-                return readSum(depth + 1) && text.passes(']');
+                tape.at++;
+                return readSum(depth + 1) && tape.passes(']');
             }
             int letter = Law.placeOfLetter(sign);
             if (letter == NONE) {
-                return text.fails(1, text.at);
+                return tape.fails(1, tape.at);
             }
-            text.at++;
+            tape.at++;
             written.put(Law.LETTER, letter);
             return true;
         }
 
         private boolean readNumber() {
             int number = 0;
-            for (int digits = 0; digits < 5 && text.isDigit(); digits++) {
-                number = 10 * number + text.sign() - '0';
-                text.at++;
+            for (int digits = 0; digits < 5 && tape.isDigit(); digits++) {
+                number = 10 * number + tape.sign() - '0';
+                tape.at++;
             }
-            if (text.isDigit()) {
-                return text.fails(2, text.at);
+            if (tape.isDigit()) {
+                return tape.fails(2, tape.at);
             }
             written.put(Law.NUMBER, number);
             return true;
@@ -1174,12 +1160,12 @@ public final class ShadowCourt {
         private static final int DEEPEST = 2;
         private static final int LONGEST_TEXT = 80;
 
-        private final Text text;
+        private final Tape tape;
         private final int[] steps;
         private int size;
 
-        private WalkReader(Text text) {
-            this.text = text;
+        private WalkReader(Tape tape) {
+            this.tape = tape;
             steps = new int[MOST_STEPS];
             size = 0;
         }
@@ -1204,7 +1190,7 @@ public final class ShadowCourt {
                 if (!readStep(depth)) {
                     return false;
                 }
-                if (text.sign() == closing) {
+                if (tape.sign() == closing) {
                     return true;
                 }
             }
@@ -1212,34 +1198,34 @@ public final class ShadowCourt {
         }
 
         private boolean readStep(int depth) {
-            int start = text.at;
+            int start = tape.at;
             int before = size;
             int times = 1;
-            if (text.sign() >= '2' && text.sign() <= '9') {
-                times = text.sign() - '0';
-                text.at++;
+            if (tape.sign() >= '2' && tape.sign() <= '9') {
+                times = tape.sign() - '0';
+                tape.at++;
             }
-            if (text.sign() == '(') {
+            if (tape.sign() == '(') {
                 if (depth >= DEEPEST) {
-                    return text.fails(5, text.at);
+                    return tape.fails(5, tape.at);
                 }
-                text.at++;
-                if (!readSteps(depth + 1) || !text.passes(')')) {
+                tape.at++;
+                if (!readSteps(depth + 1) || !tape.passes(')')) {
                     return false;
                 }
-                return repeat(before, times - 1) || text.fails(6, start);
+                return repeat(before, times - 1) || tape.fails(6, start);
             }
-            int step = stepOf(text.sign());
+            int step = stepOf(tape.sign());
             if (step == NONE) {
-                return text.fails(1, text.at);
+                return tape.fails(1, tape.at);
             }
-            text.at++;
+            tape.at++;
             if (size >= MOST_STEPS) {
-                return text.fails(6, start);
+                return tape.fails(6, start);
             }
             steps[size] = step;
             size++;
-            return repeat(before, times - 1) || text.fails(6, start);
+            return repeat(before, times - 1) || tape.fails(6, start);
         }
 
         /** Puts the STEPS from a place on behind the last one, so many times. */
@@ -1604,7 +1590,7 @@ public final class ShadowCourt {
         private void felonsGo(Day day, int many, boolean night) {
             for (int i = 0; i < many && i < FELONS; i++) {
                 int f = line[i];
-                int spot = findShadow(day, f);
+                int spot = shadows.size > 0 ? findShadow(day, f, reachOf(day, f)) : NONE;
                 if (!Market.isSpot(spot)) {
                     day.timesAway++;
                     day.away[f] = Math.min(day.away[f] + 1, MOST_AWAY);
@@ -1624,11 +1610,11 @@ public final class ShadowCourt {
         }
 
         /** The nearest spot in a SHADOW that nobody took, of like ones the lowest; NONE. */
-        private int findShadow(Day day, int f) {
-            if (shadows.size == 0 || !day.hasFelon(f)) {
+        private int findShadow(Day day, int f, int reach) {
+            if (!day.hasFelon(f)) {
                 return NONE;
             }
-            int fewestSteps = reachOf(day, f) + 1;
+            int fewestSteps = reach + 1;
             int best = NONE;
             for (int i = 0; i < shadows.size && i < SPOTS; i++) {
                 int spot = shadows.spots[i];
@@ -1735,6 +1721,7 @@ public final class ShadowCourt {
     /** What would be, tried on copies of the day. */
     private static final class Foresight {
         private static final int LONGEST_WAY = 5;
+        private static final int MOST_WAYS = 3125;
         private static final int MOST_MINUTES = 30;
         private static final int NEVER = 1000000;
 
@@ -1780,16 +1767,26 @@ public final class ShadowCourt {
             return day;
         }
 
-        /** Goes through all ways by their rows; of like ones the first is the least. */
-        private int bestWay(int j, int m) {
+        /**
+         * Goes through all ways by their rows; of like ones the first is the least. Day i is the
+         * one behind i STEPS, so that a way needs only the days from its first other STEP on.
+         */
+        private int leastOwedWay(int j, int m) {
             int owed = copyOfNow().owedByAll();
             int best = NEVER;
             int from = 0;
             for (int i = 0; i < LONGEST_WAY; i++) {
                 way[i] = 0;
             }
-            for (int turn = 0; turn < 3125 && from >= 0; turn++) {
-                int left = goWay(j, from, m);
+            for (int turn = 0; turn < MOST_WAYS && from >= 0; turn++) {
+                Day day = days[from];
+                for (int i = from; i < m && i < LONGEST_WAY; i++) {
+                    day = days[i + 1];
+                    day.copyFrom(days[i]);
+                    day.setWalk(j, stepAlone(way[i]));
+                    clock.goOn(day, 1, NONE);
+                }
+                int left = day.owedByAll();
                 if (left < best) {
                     best = left;
                     System.arraycopy(way, 0, bestWay, 0, LONGEST_WAY);
@@ -1799,18 +1796,8 @@ public final class ShadowCourt {
             return owed - best;
         }
 
-        /** Goes the way from a STEP on, the days up to there being known: what is OWED then. */
-        private int goWay(int j, int from, int m) {
-            for (int i = Math.max(from, 0); i < m && i < LONGEST_WAY; i++) {
-                Day day = days[i + 1];
-                day.copyFrom(days[i]);
-                int step = way[i];
-                if (step >= 0 && step <= STAY) {
-                    day.setWalk(j, singleSteps[step]);
-                }
-                clock.goOn(day, 1, NONE);
-            }
-            return m >= 0 && m <= LONGEST_WAY ? days[m].owedByAll() : NEVER;
+        private int[] stepAlone(int step) {
+            return singleSteps[step >= 0 && step <= STAY ? step : STAY];
         }
 
         /** The first STEP that is another one in the next way; NONE behind the last way. */
