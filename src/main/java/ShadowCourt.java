@@ -659,10 +659,12 @@ public final class ShadowCourt {
 
         /** The next spot in one of the eight ways; NONE at the market's end. */
         private static int beside(int spot, int way) {
-            if (!isSpot(spot) || way < 0 || way >= WAY_X.length) {
+            if (spot < 0 || spot >= SPOTS || way < 0 || way >= 8) {
                 return NONE;
             }
-            return spotAt(spot % SIDE + WAY_X[way], spot / SIDE + WAY_Y[way]);
+            int x = spot % SIDE + WAY_X[way];
+            int y = spot / SIDE + WAY_Y[way];
+            return x >= 0 && x < SIDE && y >= 0 && y < SIDE ? SIDE * y + x : NONE;
         }
 
         private int kindAt(int spot) {
