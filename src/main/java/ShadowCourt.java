@@ -637,16 +637,18 @@ public final class ShadowCourt {
 
         private final int[] kinds;
         private final int[] drawn;
-        // How far spots are from spot s stands in row s, and in row SPOTS + s without the river;
-        // a row is reckoned when it is first asked for: of most spots nobody ever asks.
+        // How far spots are from spot s stands in row s, and a row is reckoned when it is first
+        // asked for: of most spots nobody ever asks, of some thousands of times.
         private final int[][] steps;
         private final boolean[] isReckoned;
+        private final int[] drySteps;
 
         private Market() {
             kinds = new int[SPOTS];
             drawn = new int[SPOTS];
-            steps = new int[2 * SPOTS][SPOTS];
-            isReckoned = new boolean[2 * SPOTS];
+            steps = new int[SPOTS][SPOTS];
+            isReckoned = new boolean[SPOTS];
+            drySteps = new int[SPOTS];
         }
 
         private static int spotAt(int x, int y) {
@@ -752,20 +754,20 @@ public final class ShadowCourt {
 
         /** Whether a walk of at most 3 STEPS, not through the river, leads from one to the other. */
         private boolean isDryWalk(int from, int to) {
-            return stepsBetween(from, to, true) < FAR;
+            reckonRow(drySteps, from, true);
+            return isSpot(to) && drySteps[to] < FAR;
         }
 
         /** The fewest STEPS, 0 to 3, from one spot to another; FAR, if there are more. */
-        private int stepsBetween(int from, int to, boolean dry) {
+        private int stepsBetween(int from, int to) {
             if (!isSpot(from) || !isSpot(to)) {
                 return FAR;
             }
-            int row = dry ? SPOTS + from : from;
-            if (!isReckoned[row]) {
-                reckonRow(steps[row], from, dry);
-                isReckoned[row] = true;
+            if (!isReckoned[from]) {
+                reckonRow(steps[from], from, false);
+                isReckoned[from] = true;
             }
-            return steps[row][to];
+            return steps[from][to];
         }
 
         private void reckonRow(int[] row, int from, boolean dry) {
@@ -1623,7 +1625,7 @@ public final class ShadowCourt {
                 if (shadows.isTaken[spot]) {
                     continue;
                 }
-                int steps = market.stepsBetween(day.felonSpot[f], spot, false);
+                int steps = market.stepsBetween(day.felonSpot[f], spot);
                 if (steps < fewestSteps || steps == fewestSteps && spot < best) {
                     fewestSteps = steps;
                     best = spot;
@@ -1701,7 +1703,7 @@ public final class ShadowCourt {
 
         private boolean canGo(Day day, int f, int spot) {
             return day.hasFelon(f)
-                && clock.market.stepsBetween(day.felonSpot[f], spot, false) <= reach[f];
+                && clock.market.stepsBetween(day.felonSpot[f], spot) <= reach[f];
         }
 
         /** Gives a free place to who reached it, and the place that one had to who reached that. */
