@@ -18,6 +18,7 @@ public final class ShadowCourt {
     private static final int MOST_AWAY = 999;
     private static final int LAST_MINUTE = 9999;
     private static final int MOST_STEPS = 60;
+    private static final int MOST_SENTENCES = 8;
 
     private static final int PLAIN = 0;
     private static final int WALL = 1;
@@ -39,6 +40,7 @@ public final class ShadowCourt {
     private final Crowd crowd;
     private final Day now;
     private final Day kept;
+    private final int[] groupOf;
     private boolean isKept;
 
     public ShadowCourt() {
@@ -52,6 +54,7 @@ public final class ShadowCourt {
         kept = new Day();
         foresight = new Foresight(clock, now);
         crowd = new Crowd(clock);
+        groupOf = new int[MOST_SENTENCES];
         isKept = false;
     }
 
@@ -285,7 +288,7 @@ public final class ShadowCourt {
     }
 
     public int together(int n, int what) {
-        if (!isIn(n, 1, 8) || !isIn(what, 0, 2) || tape.length < 2 * n + 1) {
+        if (!isIn(n, 1, MOST_SENTENCES) || !isIn(what, 0, 2) || tape.length < 2 * n + 1) {
             return NONE;
         }
         int twos = tape.byteAt(2 * n);
@@ -513,22 +516,12 @@ public final class ShadowCourt {
     }
 
     private int sentencesTogether(int n, int twos, int what) {
-        int[] group = foresight.groupOf;
-        for (int i = 0; i < n; i++) {
-            group[i] = i;
-        }
-        for (int i = 0; i < twos; i++) {
-            int one = tape.byteAt(2 * n + 1 + 2 * i);
-            int other = tape.byteAt(2 * n + 2 + 2 * i);
-            if (isIn(one, 0, n - 1) && isIn(other, 0, n - 1)) {
-                joinGroups(group, n, group[one], group[other]);
-            }
-        }
+        groupSentences(n, twos);
         int sum = 0;
         int groups = 0;
         int longest = 0;
         for (int g = 0; g < n; g++) {
-            int length = longestOfGroup(group, n, g);
+            int length = longestOfGroup(n, g);
             if (length != NONE) {
                 groups++;
                 sum += length;
@@ -538,19 +531,32 @@ public final class ShadowCourt {
         return what == 0 ? sum : what == 1 ? groups : longest;
     }
 
-    private static void joinGroups(int[] group, int n, int to, int from) {
+    private void groupSentences(int n, int twos) {
+        for (int i = 0; i < n && i < MOST_SENTENCES; i++) {
+            groupOf[i] = i;
+        }
+        for (int i = 0; i < twos; i++) {
+            int one = tape.byteAt(2 * n + 1 + 2 * i);
+            int other = tape.byteAt(2 * n + 2 + 2 * i);
+            if (isIn(one, 0, n - 1) && isIn(other, 0, n - 1)) {
+                joinGroups(n, groupOf[one], groupOf[other]);
+            }
+        }
+    }
+
+    private void joinGroups(int n, int to, int from) {
         for (int i = 0; i < n; i++) {
-            if (group[i] == from) {
-                group[i] = to;
+            if (groupOf[i] == from) {
+                groupOf[i] = to;
             }
         }
     }
 
     /** The longest SENTENCE of a group; NONE, if no SENTENCE is in it. */
-    private int longestOfGroup(int[] group, int n, int g) {
+    private int longestOfGroup(int n, int g) {
         int longest = NONE;
         for (int i = 0; i < n; i++) {
-            if (group[i] == g) {
+            if (groupOf[i] == g) {
                 longest = Math.max(longest, 256 * tape.byteAt(2 * i) + tape.byteAt(2 * i + 1));
             }
         }
@@ -1737,7 +1743,6 @@ public final class ShadowCourt {
         private final int[] bestWay;
         private int bestFelon;
         private final int[] shadedMinutes;
-        private final int[] groupOf;
         // least[c][s]: the fewest STEPS by which one is at spot s with c MINUTES in a SHADOW.
         private final int[][] least;
         private final int[] spread;
@@ -1758,7 +1763,6 @@ public final class ShadowCourt {
             bestWay = new int[LONGEST_WAY];
             bestFelon = NOT_POSSIBLE;
             shadedMinutes = new int[SPOTS];
-            groupOf = new int[8];
             least = new int[MOST_MINUTES + 1][SPOTS];
             spread = new int[SPOTS];
             wider = new int[SPOTS];

@@ -5,6 +5,7 @@ public final class AtOnceTest {
         countsSpots();
         countsFelons();
         handsPlacesOn();
+        mindsTheFirstSpot();
         Due.end("AtOnceTest");
     }
 
@@ -66,6 +67,15 @@ public final class AtOnceTest {
         Due.is("felon 4 could still go there", court.atOnce(0), 1);
         court.felon(4, 4, 2, 0);
         Due.is("who has drowned does not count", court.atOnce(0), 0);
+    }
+
+    private static void mindsTheFirstSpot() {
+        Probe probe = new Probe();
+        probe.law("a6(1=1);l1(1=1);v1(1=1)");
+        probe.court.judge(0, 1, 0);
+        probe.court.felon(0, 0, 0, 5);
+        Due.is("in spot 0", probe.court.atOnce(0), 1);
+        Due.is("and once more", probe.court.atOnce(0), 1);
     }
 
     private static void handsPlacesOn() {

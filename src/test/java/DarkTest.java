@@ -5,6 +5,7 @@ public final class DarkTest {
         counts();
         isDarkWithoutJudges();
         isWithoutClouds();
+        mindsTheFirstSpot();
         hasNoSpots();
         Due.end("DarkTest");
     }
@@ -58,6 +59,14 @@ public final class DarkTest {
         court.judge(0, 2, 2);
         court.lamp(0, 2, 4);
         asked("no clouds, no lamps, up to the wall", probe, 3, 97, 23, 3);
+    }
+
+    private static void mindsTheFirstSpot() {
+        Probe probe = new Probe();
+        probe.law("a6(1=1);l1(1=1)");
+        probe.court.judge(0, 1, 0);
+        asked("in spot 0", probe, 9, 99, 0, 9);
+        asked("and once more", probe, 4, 99, 0, 4);
     }
 
     private static void hasNoSpots() {

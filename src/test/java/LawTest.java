@@ -22,6 +22,7 @@ public final class LawTest {
         Due.is("all signs", probe.law("at+h*j-f/w%b(s<t&!j=f|(w>b))"), 1);
         Due.is("sixteen", probe.law("n(t=0)" + ";n(t=0)".repeat(15)), 16);
         Due.is("each kind", probe.law("a1(t=0);l1(t=0);c1(t=0);n(t=0);v1(t=0);o1(t=0)"), 6);
+        Due.is("20 bytes, all there are", probe.law("l1234" + "+1".repeat(5) + "(t=0)"), 1);
         Due.is("240 bytes", probe.law("l11" + "+1".repeat(116) + "(t=t)"), 1);
     }
 

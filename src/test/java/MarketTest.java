@@ -73,6 +73,7 @@ public final class MarketTest {
         Due.is("more than are there", probe.court.market(41), -1);
         Due.is("the tape stays", probe.court.count(6), 40);
         Due.is("the tape still holds it", probe.court.market(29), 0);
+        Due.is("40 bytes, all there are", probe.market("........../" + "0./".repeat(8) + "6.3.s"), 1);
         for (int i = 0; i < 8; i++) {
             probe.court.feed(0, 0, 0, 0, 0);
         }

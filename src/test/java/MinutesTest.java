@@ -8,6 +8,7 @@ public final class MinutesTest {
         staysAway();
         drowns();
         crossesTheRiver();
+        goesByTheMarketOfNow();
         isCloudyByDraws();
         servesAtNight();
         endsAtLast();
@@ -146,6 +147,22 @@ public final class MinutesTest {
         court.minutes(1);
         Due.is("it goes through the river", court.felonIs(0, 0), 24);
         Due.is("without drowning", court.felonIs(0, 3), 0);
+    }
+
+    private static void goesByTheMarketOfNow() {
+        Probe probe = new Probe();
+        ShadowCourt court = probe.court;
+        probe.law("a0(1=1);l1(1=1);v3(1=1)");
+        court.judge(0, 1, 0);
+        court.felon(0, 0, 0, 9);
+        Due.is("two steps", court.tried(1, 4), 2);
+        probe.marketWith(0, "..#7.", 1, "#9.");
+        Due.is("a wall in one way", court.tried(1, 4), 2);
+        probe.marketWith(0, ".#8.", 1, "#9.");
+        court.judge(0, 0, 2);
+        Due.is("walls all around", court.tried(1, 1), 1);
+        probe.marketWith(0, "0.");
+        Due.is("all plain again", court.tried(1, 4), 3);
     }
 
     private static void isCloudyByDraws() {

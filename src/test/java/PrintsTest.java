@@ -21,6 +21,8 @@ public final class PrintsTest {
         Due.is("the tape is empty then", court.count(6), 0);
         Due.is("not so many", court.prints(2, 0), -1);
         Due.is("nobody is told", probe.prints(1, 5, 5), -4);
+        Due.is("21 spots that are there", probe.prints(0, new int[21]), -1);
+        Due.is("20 spots", probe.prints(0, new int[20]), 0);
         Due.is("no such spot", probe.prints(0, 5, 100), -3);
         Due.is("no such spot, nobody told", probe.prints(1, 255, 5), -3);
         Due.is("the tape is empty then", court.count(6), 0);

@@ -20,6 +20,7 @@ public final class WalkTest {
         Due.is("60", probe.walk(0, "6(9n)2(3n)"), 60);
         Due.is("60 in rounds", probe.walk(1, "6(2(5n))"), 60);
         Due.is("left of the one", probe.court.count(20), 60);
+        Due.is("20 bytes, all there are", probe.walk(0, "nesw.".repeat(4)), 20);
         Due.is("60 signs", probe.walk(0, "nesw.".repeat(12)), 60);
         Due.is("80 bytes", probe.walk(0, "(" + "(n)".repeat(26) + ")"), 26);
     }
