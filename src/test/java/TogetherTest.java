@@ -18,6 +18,7 @@ public final class TogetherTest {
         Due.is("the tape stays", court.count(6), 20);
         Due.is("it is still there", court.together(2, 0), 20);
         Due.is("the tape is empty then", court.count(6), 0);
+        Due.is("9 of bytes that are there", probe.together(9, 0, new int[40]), -1);
         Due.is("8 of 17 bytes", probe.together(8, 0, new int[17]), 0);
         Due.is("9 twos of 20 bytes", probe.together(1, 0, 0, 10, 9, 0), -1);
         Due.is("the tape stays", court.count(6), 20);
