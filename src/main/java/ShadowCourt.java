@@ -1452,6 +1452,7 @@ public final class ShadowCourt {
     private static final class Clock {
         private static final int LAMP_REACH = 4;
         private static final int LAMP_SHADOW = 2;
+        private static final int AHEAD_OF_ALL = 1000;
 
         private final Market market;
         private final Law law;
@@ -1584,7 +1585,7 @@ public final class ShadowCourt {
                     continue;
                 }
                 tellFelon(day, f);
-                int rank = f == ahead ? Integer.MAX_VALUE : law.worthOf('o', 999);
+                int rank = f == ahead ? AHEAD_OF_ALL : law.worthOf('o', 999);
                 int place = many;
                 for (; place > 0 && ranks[place - 1] < rank; place--) {
                     line[place] = line[place - 1];
