@@ -48,6 +48,7 @@ public final class ChoiceEdgesTest {
         servedByOfNoSuchWhat();
         servedByOneNotTold();
         servedByTheOtherOneNotThere();
+        servedByInTheirOrder();
         servedByDrawsThatWillCome();
         servedByBehindTheLastMinute();
         servedByChangesNothing();
@@ -565,6 +566,17 @@ public final class ChoiceEdgesTest {
         probe.court.felon(3, 4, 5, 9);
         Due.is("a lamp behind judge 0 alone", probe.court.servedBy(1, 0), 1);
         Due.is("a lamp behind judge 1 alone", probe.court.servedBy(1, 1), 1);
+    }
+
+    // "n MINUTES": FELONS go by o, none of them first of all
+    private static void servedByInTheirOrder() {
+        for (int f = 0; f < 10; f++) {
+            Probe probe = twoSpots((f + 1) % 10, f);
+            probe.court.judge(1, 0, 0);
+            Due.is("felon " + f + " comes behind", probe.court.servedBy(1, 0), 1);
+            Due.is("with both", probe.court.servedBy(1, 2), 1);
+            Due.is("home, felon " + f + " behind", probe.court.home(1, 1, 10), 1);
+        }
     }
 
     // "by the DRAWS that will come"

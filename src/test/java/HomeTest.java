@@ -69,6 +69,14 @@ public final class HomeTest {
 
     /** Against all ways, each tried as a walk. */
     private static void isTheBestOfAll() {
+        for (int seed = 0; seed < 3; seed++) {
+            for (int m = 1; m <= 4; m++) {
+                compareWithWalks(seed * 777, m);
+            }
+        }
+    }
+
+    private static Probe arena(int seed) {
         Probe probe = new Probe();
         ShadowCourt court = probe.court;
         probe.marketWith(3, "4.#r4.", 4, "2.s7.", 6, "8.2#");
@@ -81,16 +89,12 @@ public final class HomeTest {
         for (int f = 0; f < felons.length; f++) {
             court.felon(f, felons[f][0], felons[f][1], felons[f][2]);
         }
-        for (int seed = 0; seed < 3; seed++) {
-            court.seed(seed * 777);
-            for (int m = 1; m <= 4; m++) {
-                compareWithWalks(probe, m);
-            }
-        }
+        court.seed(seed);
+        return probe;
     }
 
-    private static void compareWithWalks(Probe probe, int m) {
-        ShadowCourt court = probe.court;
+    private static void compareWithWalks(int seed, int m) {
+        ShadowCourt court = arena(seed).court;
         int less = court.home(0, m, 10);
         StringBuilder way = new StringBuilder();
         for (int i = 0; i < m; i++) {
@@ -104,9 +108,11 @@ public final class HomeTest {
             for (int i = 0, rest = row; i < m; i++, rest /= 5) {
                 text.insert(0, "nesw.".charAt(rest % 5));
             }
+            Probe probe = arena(seed);
             probe.walk(0, text.toString());
-            if (court.tried(m, 0) > most) {
-                most = court.tried(m, 0);
+            int served = probe.court.tried(m, 0);
+            if (served > most) {
+                most = served;
                 best = text.toString();
             }
         }

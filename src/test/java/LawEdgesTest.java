@@ -132,7 +132,8 @@ public final class LawEdgesTest {
         Due.is("the second", reach("v1(0=1);v2(0=0);v3(0=0)"), 2);
         Due.is("the last", reach("v1(0=1);v2(0=1);v3(0=0)"), 3);
         Due.is("of its letter", reach("l1(0=0);a2(0=0);v3(0=0)"), 3);
-        Due.is("the sixteenth", reach("v1(0=1);".repeat(15) + "v2(0=0)"), 2);
+        Due.is("the sixteenth", reach("v0(0=1);".repeat(15) + "v2(0=0)"), 2);
+        Due.is("the sixteenth does not", reach("v1(0=1);".repeat(15) + "v2(0=1)"), 0);
     }
 
     // "none: 0"
@@ -278,6 +279,9 @@ public final class LawEdgesTest {
         holds("7%[0-2]=1", true);
         holds("[0-7]%[0-2]=0-1", true);
         holds("0/5=0", true);
+        holds("7/1=7", true);
+        holds("7/[0-1]=0-7", true);
+        holds("7%1=0", true);
         holds("1/99999=0", true);
     }
 

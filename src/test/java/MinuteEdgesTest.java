@@ -109,6 +109,9 @@ public final class MinuteEdgesTest {
         walksTo("not to the next row", probe, "e", 49);
         probe.court.judge(0, 0, 4);
         walksTo("not to the row ahead", probe, "w", 40);
+        probe.court.judge(1, 5, 5);
+        walksTo("with the other one told", probe, "w", 40);
+        Due.is("that one", probe.court.tried(1, 31), 55);
     }
 
     // "(.. onto the other JUDGE: it stays ..)"

@@ -180,7 +180,15 @@ public final class MinutesTest {
             Due.is("served in " + minute, court.minutes(1), cloudy ? 0 : 1);
             Due.is("X behind " + minute, court.count(7), x);
         }
+        isCloudyBySeeds();
+    }
+
+    private static void isCloudyBySeeds() {
+        Probe probe = new Probe();
+        ShadowCourt court = probe.court;
         probe.law("a2(1=1);l3(1=1);v3(1=1);c1(1=1)");
+        court.judge(0, 2, 2);
+        court.felon(0, 3, 2, 99);
         for (int seed = 0; seed < 200; seed++) {
             court.seed(seed);
             int draw = (25173 * seed + 13849) % 65536 % 10;

@@ -18,15 +18,20 @@ public final class ShadeTest {
         Due.is("a spot", probe.court.shade(9, 9), 0);
     }
 
-    /** Asks all spots; those told must lie in as many shadows as they are told times. */
+    /** Those told must lie in as many shadows as they are told times; no other spot lies in any. */
     private static void shaded(String what, Probe probe, int... spots) {
+        int distinct = 0;
         for (int spot = 0; spot < 100; spot++) {
             int times = 0;
             for (int told : spots) {
                 times += told == spot ? 1 : 0;
             }
-            Due.is(what + ", spot " + spot, probe.court.shade(spot % 10, spot / 10), times);
+            if (times > 0) {
+                distinct++;
+                Due.is(what + ", spot " + spot, probe.court.shade(spot % 10, spot / 10), times);
+            }
         }
+        Due.is(what + ", all spots", probe.court.atOnce(1), distinct);
     }
 
     private static void fallsInEightWays() {

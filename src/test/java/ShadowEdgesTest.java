@@ -1,4 +1,5 @@
 import java.util.Arrays;
+import java.util.Random;
 
 /** The sentences that name an edge: Terms, WAYS and THE SHADOW, and promises 12 and 13, one test each. */
 public final class ShadowEdgesTest {
@@ -43,6 +44,9 @@ public final class ShadowEdgesTest {
         atOnceNotThroughWalls();
         atOnceAllTen();
         atOnceHandsPlacesOn();
+        atOnceHandsOnThroughAllTen();
+        atOnceAPlaceHandedOnIsTaken();
+        atOnceAsCountedPlainly();
         atOnceSpotsInMore();
         atOnceWithNoClouds();
         Due.end("ShadowEdgesTest");
@@ -420,6 +424,73 @@ public final class ShadowEdgesTest {
             probe.court.felon(9, 9, 1, 9);
             Due.is(last + " and one more", probe.court.atOnce(0), Math.min(last + 1, 9));
         }
+    }
+
+    // The same, through all of the FELONS 0 to 9.
+    private static void atOnceHandsOnThroughAllTen() {
+        Probe probe = new Probe();
+        probe.court.judge(0, 9, 0);
+        probe.court.judge(1, 7, 9);
+        probe.law("a0(j=0);l9(j=0);a2(0=0);l1(0=0);v1(f<9);v0(0=0)");
+        // spots 19 to 99, and 98 beside the last: each felon can go on by one
+        for (int f = 0; f < 9; f++) {
+            probe.court.felon(f, 9, 1 + f, 9);
+        }
+        probe.court.felon(9, 9, 1, 9);
+        Due.is("all ten", probe.court.atOnce(0), 10);
+        probe.court.judge(1, 0, 0);
+        Due.is("without 98", probe.court.atOnce(0), 9);
+    }
+
+    // The same: who has gone on for another one leaves that one its spot.
+    private static void atOnceAPlaceHandedOnIsTaken() {
+        Probe probe = ofOneJudge("a2(0=0);l3(0=0);v3(f=0);v0(0=0)");
+        for (int f = 0; f < 3; f++) {
+            probe.court.felon(f, 6, 5, 9);
+        }
+        Due.is("felons 1 and 2 can be there alone", probe.court.atOnce(0), 2);
+    }
+
+    /** Against all ways to put felons on spots; one court, asked for many arrangements. */
+    private static void atOnceAsCountedPlainly() {
+        Random random = new Random(99);
+        for (int run = 0; run < 12; run++) {
+            int[] reach = {1 + run % 2, run % 4};
+            Probe probe = ofOneJudge("a2(0=0);l4(0=0);v" + reach[0] + "(f%2=0);v" + reach[1] + "(0=0)");
+            probe.court.judge(1, 4 + run % 3, 4);
+            boolean[] shaded = new boolean[100];
+            for (int spot = 45; spot < 60; spot++) {
+                shaded[spot] = probe.court.shade(spot % 10, spot / 10) > 0;
+            }
+            for (int turn = 0; turn < 30; turn++) {
+                boolean[][] can = new boolean[6][100];
+                for (int f = 0; f < 6; f++) {
+                    int spot = 10 * (3 + random.nextInt(5)) + 4 + random.nextInt(6);
+                    int owed = random.nextInt(4);
+                    probe.court.felon(f, spot % 10, spot / 10, owed);
+                    for (int to = 0; to < 100 && owed > 0; to++) {
+                        int steps = Math.abs(spot % 10 - to % 10) + Math.abs(spot / 10 - to / 10);
+                        can[f][to] = shaded[to] && steps <= reach[f % 2];
+                    }
+                }
+                Due.is("run " + run + ", turn " + turn, probe.court.atOnce(0), countedPlainly(can, 0, shaded));
+            }
+        }
+    }
+
+    private static int countedPlainly(boolean[][] can, int f, boolean[] isFree) {
+        if (f == can.length) {
+            return 0;
+        }
+        int best = countedPlainly(can, f + 1, isFree);
+        for (int spot = 0; spot < isFree.length; spot++) {
+            if (can[f][spot] && isFree[spot]) {
+                boolean[] left = isFree.clone();
+                left[spot] = false;
+                best = Math.max(best, 1 + countedPlainly(can, f + 1, left));
+            }
+        }
+        return best;
     }
 
     // "spots in SHADOW; spots in more than one"

@@ -1,3 +1,5 @@
+import java.util.Arrays;
+
 /** The sentences that name an edge: promises 2, 19, 20, 21, 26 (feed, prints, cloudy, together, check), one test each. */
 public final class TapeEdgesTest {
     private static final int LEAST = Integer.MIN_VALUE;
@@ -335,7 +337,7 @@ public final class TapeEdgesTest {
     }
 
     private static void cloudy(Probe probe, int served, int sets, int lowest, int sure, int... minutes) {
-        String what = "served " + served + " of " + java.util.Arrays.toString(minutes);
+        String what = "served " + served + " of " + Arrays.toString(minutes);
         Due.is(what + ", sets", probe.cloudy(served, 0, minutes), sets);
         Due.is(what + ", the first", probe.cloudy(served, 1, minutes), lowest);
         Due.is(what + ", surely", probe.cloudy(served, 2, minutes), sure);
@@ -345,7 +347,7 @@ public final class TapeEdgesTest {
     private static void cloudyOfNoSuchN() {
         Probe probe = new Probe();
         int[] ones = new int[20];
-        java.util.Arrays.fill(ones, 1);
+        Arrays.fill(ones, 1);
         probe.feed(ones);
         int[] wrong = {-1, 0, 11, LEAST, GREATEST};
         for (int n : wrong) {
@@ -465,7 +467,7 @@ public final class TapeEdgesTest {
     }
 
     private static void together(Probe probe, int n, int all, int groups, int longest, int... bytes) {
-        String what = n + " of " + java.util.Arrays.toString(bytes);
+        String what = n + " of " + Arrays.toString(bytes);
         Due.is(what + ", all", probe.together(n, 0, bytes), all);
         Due.is(what + ", groups", probe.together(n, 1, bytes), groups);
         Due.is(what + ", the longest", probe.together(n, 2, bytes), longest);
@@ -618,7 +620,7 @@ public final class TapeEdgesTest {
     // "SENTENCES (1 to 8 ..)": all eight
     private static void togetherEightSentences() {
         int[] bytes = new int[17];
-        java.util.Arrays.fill(bytes, 0, 16, 255);
+        Arrays.fill(bytes, 0, 16, 255);
         together(new Probe(), 8, 8 * 65535, 8, 65535, bytes);
         together(new Probe(), 8, 8, 1, 8, 0, 1, 0, 2, 0, 3, 0, 4, 0, 5, 0, 6, 0, 7, 0, 8,
             7, 0, 1, 2, 3, 4, 5, 6, 7, 0, 7, 2, 4, 5, 0);
