@@ -1,7 +1,7 @@
 """A second ShadowCourt, written from the document alone and in other ways than the Java one.
 
 It is slow and plain on purpose: laws are trees, days are copied whole, ways are all gone
-through. tools/record_runs.py lets it answer random runs; the Java class must answer the same.
+through. tools/random_runs.py lets it answer random runs; the Java class must answer the same.
 """
 import copy
 import itertools

@@ -1413,8 +1413,11 @@ public final class ShadowCourt {
 
         private void clear() {
             for (int i = 0; i < size && i < SPOTS; i++) {
-                layers[spots[i]] = 0;
-                isTaken[spots[i]] = false;
+                int spot = spots[i];
+                if (Market.isSpot(spot)) {
+                    layers[spot] = 0;
+                    isTaken[spot] = false;
+                }
             }
             size = 0;
         }
@@ -1601,6 +1604,9 @@ public final class ShadowCourt {
         private void felonsGo(Day day, int many, boolean night) {
             for (int i = 0; i < many && i < FELONS; i++) {
                 int f = line[i];
+                if (!day.hasFelon(f)) {
+                    continue;
+                }
                 int spot = shadows.size > 0 ? findShadow(day, f, reachOf(day, f)) : NONE;
                 if (!Market.isSpot(spot)) {
                     day.timesAway++;
@@ -1629,7 +1635,7 @@ public final class ShadowCourt {
             int best = NONE;
             for (int i = 0; i < shadows.size && i < SPOTS; i++) {
                 int spot = shadows.spots[i];
-                if (shadows.isTaken[spot]) {
+                if (!Market.isSpot(spot) || shadows.isTaken[spot]) {
                     continue;
                 }
                 int steps = market.stepsBetween(day.felonSpot[f], spot);
@@ -1691,7 +1697,7 @@ public final class ShadowCourt {
                 int f = queue[next];
                 for (int i = 0; i < clock.shadows.size && i < SPOTS; i++) {
                     int spot = clock.shadows.spots[i];
-                    if (reachedBy[spot] != NONE || !canGo(day, f, spot)) {
+                    if (!canGo(day, f, spot) || reachedBy[spot] != NONE) {
                         continue;
                     }
                     reachedBy[spot] = f;
@@ -1709,7 +1715,7 @@ public final class ShadowCourt {
         }
 
         private boolean canGo(Day day, int f, int spot) {
-            return day.hasFelon(f)
+            return day.hasFelon(f) && Market.isSpot(spot)
                 && clock.market.stepsBetween(day.felonSpot[f], spot) <= reach[f];
         }
 
@@ -1845,7 +1851,10 @@ public final class ShadowCourt {
             Day day = copyOfNow();
             for (int i = 0; i < n && clock.walkOn(day); i++) {
                 for (int k = 0; k < clock.shadows.size && k < SPOTS; k++) {
-                    shadedMinutes[clock.shadows.spots[k]]++;
+                    int spot = clock.shadows.spots[k];
+                    if (Market.isSpot(spot)) {
+                        shadedMinutes[spot]++;
+                    }
                 }
             }
         }
