@@ -112,6 +112,16 @@ public final class PlacesEdgesTest {
         court.judge(0, 5, 5);
         Due.no("a wall", court.judge(0, 0, 0));
         Due.is("where it was", court.count(10), 55);
+        court.judge(1, 6, 6);
+        for (int j = 0; j < 2; j++) {
+            Due.no("a wall for " + j, court.judge(j, 0, 0));
+            Due.no("the river for " + j, court.judge(j, 2, 0));
+            for (int[] spot : NO_SPOTS) {
+                Due.no(j + " at " + spot[0] + ", " + spot[1], court.judge(j, spot[0], spot[1]));
+            }
+        }
+        Due.is("0 is where it was", court.count(10), 55);
+        Due.is("1 is where it was", court.count(11), 66);
     }
 
     // "(its WALK stays, from where it is on)"
